@@ -85,7 +85,6 @@ public final class DoorsRemember {
     }
 
     public int text() {
-        if (textCount >= TEXTS_AT_MOST) return FULL;
         return readNextText();
     }
 
@@ -332,8 +331,9 @@ public final class DoorsRemember {
 
     /** Reads into the first unused text: after a fault it stays unused, and the next reading begins it anew. */
     private int readNextText() {
-        if (textCount >= TEXTS_AT_MOST) return FULL;
-        int fault = reader.read(texts[textCount]);
+        Text next = textCount < TEXTS_AT_MOST ? texts[textCount] : null;
+        if (next == null) return FULL;
+        int fault = reader.read(next);
         reader.size = 0;
         if (fault != Reader.NO_FAULT) return FAULT - fault;
         textCount++;

@@ -133,10 +133,14 @@ public final class PromiseTests {
         due("set(0, 1, 0)", x.set(0, 1, 0), BAD);
         due("set(0, -1, 0)", x.set(0, -1, 0), BAD);
         due("the state", x.told(0, 4), 1);
+        due("set(0, 0, 0)", x.set(0, 0, 0), 1);
+        due("the state, 0 again", x.told(0, 4), 0);
         due("set(1, 77, 3)", x.set(1, 77, 3), 0);
         due("set(1, 0, 4)", x.set(1, 0, 4), BAD);
         due("set(1, 0, -1)", x.set(1, 0, -1), BAD);
         due("the turn", x.count(2), 3);
+        due("set(1, 0, 0)", x.set(1, 0, 0), 3);
+        due("the turn, 0 again", x.count(2), 0);
         due("set(2, -5, 2)", x.set(2, -5, 2), 0);
         due("set(2, 0, 3)", x.set(2, 0, 3), BAD);
         due("set(2, 0, -1)", x.set(2, 0, -1), BAD);
@@ -152,6 +156,9 @@ public final class PromiseTests {
         due("set(-1, 0, 0)", x.set(-1, 0, 0), BAD);
         DoorsRemember far = withDoors(3, DOOR, 200, 0);
         due("set(3, 0, 2): a door's one room", far.set(3, 0, 2), BAD);
+        DoorsRemember none = new DoorsRemember();
+        due("set(3, 0, 1)", none.set(3, 0, 1), 3);
+        due("one room", none.count(0), 1);
     }
 
     private static void told() {
@@ -295,7 +302,7 @@ public final class PromiseTests {
             {"cost 0;", 0}, {"shut ;", 5}, {"shut 0 cost", 7}, {"shut 0;wish 0;", 7}, {"shut 0;cost 0;", 14},
             {"shut 0;cost 0;  ", 16}, {"shut 0;cost 0;wish 0", 20}, {"shut 0;cost 0;wish 0; 0", 22},
             {"shut 0;cost 0;wish 0;;", 21}, {"shut 00000;cost", 5}, {"shut 1+12345;cost", 7}, {"shut doors;", 5},
-            {"shut dor;", 5}, {"shut Door;", 5}, {"shut 0,1;", 6}, {"shut\t0;", 4}, {"shut 1 < 2 < 3;", 11},
+            {"shut dor;", 5}, {"shut doorz;", 5}, {"shut zdoor;", 5}, {"shut ador;", 5}, {"shut Door;", 5}, {"shut 0,1;", 6}, {"shut\t0;", 4}, {"shut 1 < 2 < 3;", 11},
             {"shut 1 = 2 < 3;", 11}, {"shut 1 + not 1;", 9}, {"shut 1 < not 1;", 9}, {"shut - not 1;", 7},
             {"shut 1 2;", 7}, {"shut 1 door;", 7}, {"shut (1;", 7}, {"shut 1);", 6}, {"shut ();", 6}, {"shut", 4},
             {"shut or 1;", 5}, {"shut 1 or or 1;", 10}, {"shut 1 *;", 8}, {"shut + 1;", 5}, {"shut shut;", 5},
@@ -324,13 +331,19 @@ public final class PromiseTests {
         return x.row(0, 0);
     }
 
+    /** As many things as can be wait for what stands inside: each of six levels turns 0 into 1, and all else into 0. */
+    private static String nested(String inmost) {
+        String level = "0 or 2 and 1<2-1*";
+        return (level + "(").repeat(5) + level + inmost + ")".repeat(5);
+    }
+
     private static void textMeanings() {
         Object[][] worths = {{"door", 2}, {"state", 1}, {"turn", 2}, {"room", 5}, {"key", 3}, {"other", 3},
             {"1+2*3", 7}, {"(1+2)*3", 9}, {"9-3-2", 4}, {"9-(3-2)", 8}, {"5 or 0", 1}, {"0 or 0", 0}, {"5 and 7", 1},
             {"5 and 0", 0}, {"0 or 1 and 0", 0}, {"1 or 1 and 0", 1}, {"not 5", 0}, {"not 0", 1}, {"not 1 = 0", 1},
             {"not not 7", 1}, {"1<2", 1}, {"2<2", 0}, {"2=2", 1}, {"2=3", 0}, {"-1<0", 1}, {"- -7", 7}, {"3--4", 7},
             {"-7", 0}, {"99", 99}, {"100", 99}, {"9999", 99}, {"0-1", 0}, {"-2*-3", 6}, {"0009", 9}, {"1+1=2", 1},
-            {"1=0+1", 1}, {"not 1 or 1", 1}, {"not (1 or 1)", 0}, {"9999*9999*9999 < 0", 1},
+            {"1=0+1", 1}, {nested("7"), 1}, {nested("0"), 0}, {"not 1 or 1", 1}, {"not (1 or 1)", 0}, {"9999*9999*9999 < 0", 1},
             {"9999*9999*9999*9999 < 0", 0}, {"9999*9999*43 = 4172*1000+747", 1}, {"(2-3)*(2-3)", 1},
             {"0 or (0 and (1 < (2 - 1 * (1 + (5)))))", 0}, {"1 and (0 or (1 < (9 - 1 * (1 + 5))))", 1}};
         for (Object[] w : worths) due((String) w[0], worth((String) w[0]), (Integer) w[1]);
@@ -414,6 +427,23 @@ public final class PromiseTests {
         due("come(0) by turns", y.come(0), 31);
         due("come(2) by turns", y.come(2), 4);
         due("come(3) by turns", y.come(3), 1);
+        DoorsRemember away = new DoorsRemember();
+        away.set(2, 0, 2);
+        due("come(0) without doors", away.come(0), 4);
+        due("come(1) without doors", away.come(1), 1);
+        due("come(2) without doors", away.come(2), 0);
+        due("come(3) without doors", away.come(3), 1);
+        DoorsRemember last = withDoors(6, DOOR, 550, 0, DOOR, 550, 0, DOOR, 550, 0, DOOR, 550, 0);
+        for (int i = 0; i < 4; i++) last.set(0, i, 3);
+        last.set(1, 0, 3);
+        last.set(2, 0, 5);
+        due("come(0) from the last situation", last.come(0), 32);
+        due("come(1) from the last situation", last.come(1), 4);
+        due("come(2) from the last situation", last.come(2), 3);
+        due("come(3) from the last situation", last.come(3), 0);
+        due("found() from the last situation", last.found(), 4);
+        due("shutIn(0) from the last situation", last.shutIn(0), 32);
+        due("shutIn(5) from the last situation", last.shutIn(5), 0);
         DoorsRemember all = withDoors(6, COUNT, 10, 0);
         all.set(1, 0, 1);
         due("come(0): shut in by the turn", all.come(0), 1);
@@ -468,6 +498,10 @@ public final class PromiseTests {
         due("wished(), there", x.wished(), 0);
         DoorsRemember y = withDoors(3, DOOR, 10, 0);
         due("wished(), never", y.wished(), NONE);
+        DoorsRemember gone = under("shut 0;cost 0;wish room = 0;");
+        gone.set(2, 0, 1);
+        due("wished(), where one can't come to", gone.wished(), NONE);
+        due("shortest(), where one can't come to", gone.shortest(0), NONE);
         say(y, "shut 0;cost 0;wish state = 3 and turn = 1 and room = 1;");
         y.force(y.text());
         due("wished() by state, turn, room", y.wished(), 5);
@@ -564,6 +598,7 @@ public final class PromiseTests {
         due("it does not open", x.told(2, 5), 0);
         DoorsRemember y = withDoors(3, DOOR, 10, 0, DOOR, 20, 0);
         due("oil(): of like ones the first", y.oil(), 0);
+        due("oil(): none helps", withDoors(3, DOOR, 110, 0, DOOR, 220, 0).oil(), 0);
         DoorsRemember z = under("shut door = 0;cost 0;wish 0;");
         z.door(AFTER, 10, 0);
         z.door(AFTER, 21, 0);
