@@ -1,13 +1,5 @@
 /** Promise by promise: what each call answers to ordinary inputs, at the edges, and to wrong inputs. */
-public final class PromiseTests {
-    private static final int DOOR = 0, AFTER = 1, COUNT = 2, ONCE = 3, NEVER = 4, LATE = 5;
-    private static final int NONE = -1, BAD = -2, STATE = -3, FULL = -4;
-    private static final int MISSING = -11, OUTSIDE = -12, OTHER_SORT = -13, BELOW_ZERO = -14;
-    private static final String FIRST_RULE = "shut 0 ; cost 1 + state ; wish room = 2 ;";
-
-    private static int wrong = 0;
-    private static int asked = 0;
-
+public final class PromiseTests extends Asking {
     public static void main(String[] args) {
         constants();
         aNewObject();
@@ -41,52 +33,7 @@ public final class PromiseTests {
         copy();
         doors();
         taken();
-        System.out.println(asked + " answers, " + wrong + " not as due");
-        if (wrong != 0) System.exit(1);
-    }
-
-    private static void due(String call, long got, long want) {
-        asked++;
-        if (got == want) return;
-        wrong++;
-        System.out.println(call + " answered " + got + ", due is " + want);
-    }
-
-    /** Feeds a text in pieces of up to eight bytes. */
-    private static void say(DoorsRemember x, String text) {
-        for (int i = 0; i < text.length(); i += 8) {
-            int n = Math.min(8, text.length() - i);
-            long bytes = 0;
-            for (int k = n - 1; k >= 0; k--) bytes = bytes << 8 | text.charAt(i + k);
-            x.feed(n, bytes);
-        }
-    }
-
-    private static int read(String text) {
-        DoorsRemember x = new DoorsRemember();
-        say(x, text);
-        return x.text();
-    }
-
-    /** A house under a rule of its own. */
-    private static DoorsRemember under(String rule) {
-        DoorsRemember x = new DoorsRemember();
-        say(x, rule);
-        due("text() of " + rule, x.text(), 1);
-        x.force(1);
-        return x;
-    }
-
-    private static DoorsRemember withDoors(int rooms, int... doors) {
-        DoorsRemember x = new DoorsRemember();
-        x.set(3, 0, rooms);
-        for (int i = 0; i + 2 < doors.length; i += 3) x.door(doors[i], doors[i + 1], doors[i + 2]);
-        return x;
-    }
-
-    private static void row(DoorsRemember x, int sheet, int sort, int... items) {
-        x.sheet(sheet, sort, items.length);
-        for (int i = 0; i < items.length; i++) x.cell(sheet, i, items[i]);
+        end("promise by promise");
     }
 
     private static void constants() {
@@ -311,24 +258,6 @@ public final class PromiseTests {
             {"shutt 0;", 0}, {"shut 0;costs", 7}, {"shut 1 and;", 10}, {"shut 1 $", 7}, {"shut 12a;", 7},
             {"shut 0 ; cost \u00e9", 14}, {"shut (((((not 1)))));", 10}, {"shut (((((-1)))));", 10}};
         for (Object[] f : faulty) due("text() of " + f[0], read((String) f[0]), -100 - (Integer) f[1]);
-    }
-
-    /** What an expression says, read off the cost of one door: costs are 0 to 99, so negative ones are told by 0. */
-    private static int worth(String expression) {
-        DoorsRemember x = new DoorsRemember();
-        say(x, "shut 0;cost " + expression + ";wish 0;");
-        due("text() of " + expression, x.text(), 1);
-        x.force(1);
-        x.set(3, 0, 6);
-        x.door(DOOR, 0, 0);
-        x.door(DOOR, 0, 0);
-        x.door(DOOR, 350, 7);
-        x.set(0, 0, 3);
-        x.set(0, 2, 1);
-        x.set(1, 0, 2);
-        x.set(2, 0, 5);
-        row(x, 0, 0, 2);
-        return x.row(0, 0);
     }
 
     /** As many things as can be wait for what stands inside: each of six levels turns 0 into 1, and all else into 0. */
