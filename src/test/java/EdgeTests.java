@@ -494,6 +494,8 @@ public final class EdgeTests extends Asking {
             text "shut not not not not not -1;cost 0;wish 0;" = -125
             text "shut (((((2-1)))));cost 0;wish 0;" = 1
             text "shut -----1-1;cost 0;wish 0;" = 1
+            text "shut ((((2-(1)))));cost 0;wish 1------1;" = 1
+            text "shut 0;cost 0;wish 1-------1;" = -126
             """);
         says("a ( till its )", """
             text "shut (1)+(1)+(1)+(1)+(1)+(1)+(1);cost 0;wish 0;" = 1
@@ -793,7 +795,7 @@ public final class EdgeTests extends Asking {
         says("A THIEF: if STATE of a DOOR were another (0 .. 3): how many ROOMS one could come to", """
             house 3: 1 10 0, 3 120 0
             thief(0, 3) = 3 | thief(0, 1) = 3 | thief(1, 3) = 1 | thief(0, 4) = -2 | thief(0, -1) = -2
-            set(0, 0, 3) = 0 | thief(0, 0) = 1 | thief(1, 3) = 2 | told(0, 4) = 3 | told(1, 4) = 0
+            set(0, 0, 3) = 0 | thief(0, 0) = 1 | thief(0, 3) = 3 | thief(1, 3) = 2 | told(0, 4) = 3 | told(1, 4) = 0
             """);
     }
 
@@ -1071,6 +1073,8 @@ public final class EdgeTests extends Asking {
             judge(0) = -1 | row(0, 0) = 13
             lay 0 0: 127
             judge(0) = 0
+            lay 0 0: 0 456 0 0 266 0
+            doors(0, 0, 0, 1) = 0 | doors(0, 0, 3, 1) = 1 | told(2, 2) = 1
             """);
         says("Promise 26: of shorts its lowest 16 bits", """
             house 3: 0 0 0, 0 0 0
